@@ -56,8 +56,8 @@ final class PromiseTest {
         return v;
     }
 
-    /** Doubling needs few versions, so that 64 are enough for any size. */
-    private static int chainOf(LastingShapes x, int kind, int form, int size) {
+    /** A heap or chain of sevens; doubling needs few versions, so that 64 are enough for any size. */
+    private static int sevens(LastingShapes x, int kind, int form, int size) {
         int one = made(x, kind, form, 7);
         int v = x.empty(kind, form);
         for (int bit = 64; bit > 0; bit /= 2) {
@@ -136,7 +136,7 @@ final class PromiseTest {
 
     private static void addUpToTheMostElements() {
         LastingShapes x = new LastingShapes();
-        int chain = chainOf(x, CHAIN, 0, 99);
+        int chain = sevens(x, CHAIN, 0, 99);
         int full = x.add(chain, 8);
         due.answers("100 elements may be", 100, () -> x.size(full));
         due.answers("the last of them", 8, () -> x.at(full, 99));
@@ -146,7 +146,7 @@ final class PromiseTest {
         int less = x.rest(full);
         due.answers("there is room again", 100, () -> x.size(x.add(less, 8)));
         LastingShapes y = new LastingShapes();
-        int heap = chainOf(y, HEAP, 2, 100);
+        int heap = sevens(y, HEAP, 2, 100);
         due.fails("nor in a heap", STATE, () -> y.add(heap, 1));
     }
 
@@ -249,6 +249,9 @@ final class PromiseTest {
             due.elements("rest of it", x, x.rest(both), 1, 5, 5, 5, 7, 9);
             due.elements("v stays", x, left, 1, 5, 5);
             due.elements("w stays", x, right, -2, 5, 7, 9);
+            int least = made(x, HEAP, form, Integer.MIN_VALUE, 0);
+            int most = made(x, HEAP, form, Integer.MAX_VALUE, 1);
+            due.elements("extremes", x, x.join(most, least), Integer.MIN_VALUE, 0, 1, Integer.MAX_VALUE);
         }
     }
 
@@ -277,7 +280,7 @@ final class PromiseTest {
     private static void joinUpToTheMostElements() {
         for (int kind : new int[] {HEAP, CHAIN}) {
             LastingShapes x = new LastingShapes();
-            int fifty = chainOf(x, kind, 0, 50);
+            int fifty = sevens(x, kind, 0, 50);
             int one = x.add(x.empty(kind, 0), 7);
             int none = x.empty(kind, 0);
             int full = x.join(fifty, fifty);
@@ -440,9 +443,9 @@ final class PromiseTest {
         for (int size = 0; size <= 100; size++) {
             int n = size;
             LastingShapes x = new LastingShapes();
-            int plain = chainOf(x, HEAP, 0, size);
-            int binary = chainOf(x, HEAP, 1, size);
-            int other = chainOf(x, HEAP, 2, size);
+            int plain = sevens(x, HEAP, 0, size);
+            int binary = sevens(x, HEAP, 1, size);
+            int other = sevens(x, HEAP, 2, size);
             due.answers("parts of a heap 0 of " + n, n == 0 ? 0 : 1, () -> x.parts(plain));
             due.answers("parts of a heap 1 of " + n, bits(n), () -> x.parts(binary));
             due.answers("parts of a heap 2 of " + n, n == 0 ? 0 : 1, () -> x.parts(other));
