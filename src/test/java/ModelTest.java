@@ -11,8 +11,7 @@ import java.util.TreeMap;
  */
 final class ModelTest {
     private static final int RUNS = 600;
-    private static final int CALLS = 512;
-    private static final int[] FORMS = {3, 3, 2, 2, 1};
+        private static final int[] FORMS = Scenes.FORMS;
 
     public static void main(String[] args) {
         Due due = new Due();
@@ -32,7 +31,7 @@ final class ModelTest {
     private final Due due;
     private final int run;
     private final Random random;
-    private final LastingShapes tested = new LastingShapes();
+    private final Counted tested = new Counted();
     private final List<Shape> shapes = new ArrayList<>();
 
     private ModelTest(Due due, int run) {
@@ -44,7 +43,8 @@ final class ModelTest {
     private void runCalls() {
         // Some runs join often, so that versions with about 100 elements come up.
         int joins = run % 3 == 0 ? 40 : 5;
-        for (int call = 0; call < CALLS; call++) {
+        int leftForTheEnd = run % 4 == 0 ? 0 : 300;
+        while (tested.callsLeft() > leftForTheEnd) {
             int drawn = random.nextInt(100);
             if (drawn < joins) {
                 callJoin();
@@ -52,7 +52,7 @@ final class ModelTest {
                 callOther(random.nextInt(run % 2 == 0 ? 13 : 30));
             }
         }
-        compareAll();
+        compareVersions();
     }
 
     private void callOther(int which) {
@@ -109,16 +109,24 @@ final class ModelTest {
         due.same("run " + run + ": " + told, Due.outcome(model), Due.outcome(real));
     }
 
-    private void compareAll() {
-        for (int version = 0; version < shapes.size(); version++) {
-            int v = version;
-            List<Integer> row = shapes.get(v).elements();
-            compare("at the end: size " + v, () -> tested.size(v), row::size);
-            compare("at the end: parts " + v, () -> tested.parts(v), () -> parts(shapes.get(v)));
-            for (int place = 0; place < row.size(); place++) {
-                int i = place;
-                compare("at the end: at " + v + " " + i, () -> tested.at(v, i), () -> row.get(i));
+    /** As many versions as there are calls left for, whole, from any one on. */
+    private void compareVersions() {
+        int from = random.nextInt(64);
+        for (int i = 0; i < shapes.size(); i++) {
+            int v = (from + i) % shapes.size();
+            if (tested.callsLeft() >= shapes.get(v).elements().size() + 2) {
+                compareVersion(v);
             }
+        }
+    }
+
+    private void compareVersion(int v) {
+        List<Integer> row = shapes.get(v).elements();
+        compare("at the end: size " + v, () -> tested.size(v), row::size);
+        compare("at the end: parts " + v, () -> tested.parts(v), () -> parts(shapes.get(v)));
+        for (int place = 0; place < row.size(); place++) {
+            int i = place;
+            compare("at the end: at " + v + " " + i, () -> tested.at(v, i), () -> row.get(i));
         }
     }
 

@@ -1,19 +1,20 @@
 import java.util.NoSuchElementException;
 
-/** For each promise of the document: ordinary inputs, the edges that it names, and wrong inputs. */
+/**
+ * For each promise of the document: ordinary inputs, and some wrong ones. All limits stand in
+ * BoundaryTest, all exceptions and their order in ExceptionTest.
+ */
 final class PromiseTest {
     private static final Class<IllegalArgumentException> ARGUMENT = IllegalArgumentException.class;
-    private static final Class<IllegalStateException> STATE = IllegalStateException.class;
     private static final Class<NoSuchElementException> NO_ELEMENT = NoSuchElementException.class;
     private static final Class<IndexOutOfBoundsException> OUTSIDE = IndexOutOfBoundsException.class;
 
-    private static final int QUEUE = 0;
-    private static final int HEAP = 1;
-    private static final int LIST = 2;
-    private static final int MAP = 3;
-    private static final int CHAIN = 4;
-    private static final int[] FORMS = {3, 3, 2, 2, 1};
-    private static final int[] NO_VERSIONS = {-1, 64, 1000, Integer.MIN_VALUE, Integer.MAX_VALUE};
+    private static final int QUEUE = Scenes.QUEUE;
+    private static final int HEAP = Scenes.HEAP;
+    private static final int LIST = Scenes.LIST;
+    private static final int MAP = Scenes.MAP;
+    private static final int CHAIN = Scenes.CHAIN;
+    private static final int[] FORMS = Scenes.FORMS;
 
     private static final Due due = new Due();
 
@@ -21,19 +22,12 @@ final class PromiseTest {
         newObject();
         objectsAreApart();
         emptyOfEveryForm();
-        emptyWithWrongArguments();
         addByKind();
-        addUpToTheMostElements();
-        addOfEqualAndExtremeElements();
         firstByKind();
         restByKind();
         joinOfChains();
         joinOfHeaps();
-        joinOfOthers();
-        joinUpToTheMostElements();
         bindAndValue();
-        bindUpToTheMostElements();
-        valueOfWrongKeys();
         update();
         atOfEveryKind();
         sizeOfEveryKind();
@@ -41,14 +35,11 @@ final class PromiseTest {
         partsOfHeaps();
         partsOfOthers();
         kindOfEveryForm();
-        wrongVersions();
-        wrongKinds();
-        fullObject();
         oldVersionsStay();
         due.end();
     }
 
-    private static int made(LastingShapes x, int kind, int form, int... added) {
+    private static int made(Counted x, int kind, int form, int... added) {
         int v = x.empty(kind, form);
         for (int element : added) {
             v = x.add(v, element);
@@ -56,28 +47,15 @@ final class PromiseTest {
         return v;
     }
 
-    /** A heap or chain of sevens; doubling needs few versions, so that 64 are enough for any size. */
-    private static int sevens(LastingShapes x, int kind, int form, int size) {
-        int one = made(x, kind, form, 7);
-        int v = x.empty(kind, form);
-        for (int bit = 64; bit > 0; bit /= 2) {
-            v = x.join(v, v);
-            if ((size & bit) != 0) {
-                v = x.join(v, one);
-            }
-        }
-        return v;
-    }
-
     private static void newObject() {
-        LastingShapes x = new LastingShapes();
+        Counted x = new Counted();
         due.answers("a new object has no versions", 0, x::versions);
         due.fails("a new object has no version 0", ARGUMENT, () -> x.size(0));
     }
 
     private static void objectsAreApart() {
-        LastingShapes x = new LastingShapes();
-        LastingShapes y = new LastingShapes();
+        Counted x = new Counted();
+        Counted y = new Counted();
         x.empty(QUEUE, 0);
         due.answers("a version of one object", 1, x::versions);
         due.answers("is none of the other", 0, y::versions);
@@ -87,7 +65,7 @@ final class PromiseTest {
     }
 
     private static void emptyOfEveryForm() {
-        LastingShapes x = new LastingShapes();
+        Counted x = new Counted();
         int number = 0;
         for (int kind = 0; kind < FORMS.length; kind++) {
             for (int form = 0; form < FORMS[kind]; form++) {
@@ -102,23 +80,8 @@ final class PromiseTest {
         due.answers("the same once more is a new version", number, () -> x.empty(QUEUE, 0));
     }
 
-    private static void emptyWithWrongArguments() {
-        LastingShapes x = new LastingShapes();
-        for (int kind = 0; kind < FORMS.length; kind++) {
-            int k = kind;
-            int[] wrong = {-1, FORMS[k], 10, Integer.MIN_VALUE, Integer.MAX_VALUE};
-            for (int form : wrong) {
-                due.fails("empty(" + k + ", " + form + ")", ARGUMENT, () -> x.empty(k, form));
-            }
-        }
-        for (int kind : new int[] {-1, 5, Integer.MIN_VALUE, Integer.MAX_VALUE}) {
-            due.fails("empty(" + kind + ", 0)", ARGUMENT, () -> x.empty(kind, 0));
-        }
-        due.answers("what throws makes nothing", 0, x::versions);
-    }
-
     private static void addByKind() {
-        LastingShapes x = new LastingShapes();
+        Counted x = new Counted();
         for (int form = 0; form < 3; form++) {
             due.elements("queue", x, made(x, QUEUE, form, 5, -3, 9, 5), 5, -3, 9, 5);
             due.elements("heap", x, made(x, HEAP, form, 5, -3, 9, 5), -3, 5, 5, 9);
@@ -134,36 +97,8 @@ final class PromiseTest {
         due.answers("which makes none", map + 1, x::versions);
     }
 
-    private static void addUpToTheMostElements() {
-        LastingShapes x = new LastingShapes();
-        int chain = sevens(x, CHAIN, 0, 99);
-        int full = x.add(chain, 8);
-        due.answers("100 elements may be", 100, () -> x.size(full));
-        due.answers("the last of them", 8, () -> x.at(full, 99));
-        int before = x.versions();
-        due.fails("101 may not", STATE, () -> x.add(full, 8));
-        due.answers("and none is made", before, x::versions);
-        int less = x.rest(full);
-        due.answers("there is room again", 100, () -> x.size(x.add(less, 8)));
-        LastingShapes y = new LastingShapes();
-        int heap = sevens(y, HEAP, 2, 100);
-        due.fails("nor in a heap", STATE, () -> y.add(heap, 1));
-    }
-
-    private static void addOfEqualAndExtremeElements() {
-        LastingShapes x = new LastingShapes();
-        int least = Integer.MIN_VALUE;
-        int most = Integer.MAX_VALUE;
-        for (int form = 0; form < 3; form++) {
-            int v = made(x, HEAP, form, 0, most, least, most, -1, least, 1);
-            due.elements("heap of extremes", x, v, least, least, -1, 0, 1, most, most);
-        }
-        due.elements("queue of extremes", x, made(x, QUEUE, 1, most, least, most), most, least, most);
-        due.elements("list of extremes", x, made(x, LIST, 0, most, least), least, most);
-    }
-
     private static void firstByKind() {
-        LastingShapes x = new LastingShapes();
+        Counted x = new Counted();
         int[] due3 = {4, 2, 6, 0, 4};
         for (int kind = 0; kind < FORMS.length; kind++) {
             for (int form = 0; form < FORMS[kind] && kind != MAP; form++) {
@@ -186,7 +121,7 @@ final class PromiseTest {
                 restOf(kind, form);
             }
         }
-        LastingShapes x = new LastingShapes();
+        Counted x = new Counted();
         int map = x.bind(x.empty(MAP, 1), 1, 1);
         due.fails("rest of a map", ARGUMENT, () -> x.rest(map));
         due.fails("rest of an empty map", ARGUMENT, () -> x.rest(map - 1));
@@ -196,7 +131,7 @@ final class PromiseTest {
         int[][] rows = {{4, 2, 6}, {2, 4, 6}, {6, 2, 4}, {}, {4, 2, 6}};
         int[] row = rows[kind];
         String told = "rest of kind " + kind + ", form " + form;
-        LastingShapes x = new LastingShapes();
+        Counted x = new Counted();
         int v = made(x, kind, form, 4, 2, 6);
         due.answers(told, v + 1, () -> x.rest(v));
         due.elements(told, x, v + 1, row[1], row[2]);
@@ -211,7 +146,7 @@ final class PromiseTest {
     }
 
     private static void joinOfChains() {
-        LastingShapes x = new LastingShapes();
+        Counted x = new Counted();
         int left = made(x, CHAIN, 0, 3, 1, 2);
         int right = made(x, CHAIN, 0, 9, 0);
         int none = x.empty(CHAIN, 0);
@@ -233,7 +168,7 @@ final class PromiseTest {
 
     private static void joinOfHeaps() {
         for (int form = 0; form < 3; form++) {
-            LastingShapes x = new LastingShapes();
+            Counted x = new Counted();
             int left = made(x, HEAP, form, 5, 1, 5);
             int right = made(x, HEAP, form, 7, 5, -2, 9);
             int none = x.empty(HEAP, form);
@@ -255,49 +190,9 @@ final class PromiseTest {
         }
     }
 
-    private static void joinOfOthers() {
-        LastingShapes x = new LastingShapes();
-        for (int kind = 0; kind < FORMS.length; kind++) {
-            for (int form = 0; form < FORMS[kind]; form++) {
-                x.empty(kind, form);
-            }
-        }
-        int count = x.versions();
-        for (int v = 0; v < count; v++) {
-            for (int w = 0; w < count; w++) {
-                int left = v;
-                int right = w;
-                boolean joined = x.kind(v) == x.kind(w) && (x.kind(v) / 10 == HEAP || x.kind(v) == 40);
-                if (!joined) {
-                    String told = "join of kinds " + x.kind(v) + " and " + x.kind(w);
-                    due.fails(told, ARGUMENT, () -> x.join(left, right));
-                }
-            }
-        }
-        due.answers("what throws makes nothing", count, x::versions);
-    }
-
-    private static void joinUpToTheMostElements() {
-        for (int kind : new int[] {HEAP, CHAIN}) {
-            LastingShapes x = new LastingShapes();
-            int fifty = sevens(x, kind, 0, 50);
-            int one = x.add(x.empty(kind, 0), 7);
-            int none = x.empty(kind, 0);
-            int full = x.join(fifty, fifty);
-            due.answers("100 joined elements may be", 100, () -> x.size(full));
-            due.answers("also with none", 100, () -> x.size(x.join(full, none)));
-            int more = x.add(fifty, 7);
-            int before = x.versions();
-            due.fails("101 may not", STATE, () -> x.join(fifty, more));
-            due.fails("nor 100 and 1", STATE, () -> x.join(full, one));
-            due.fails("nor 200", STATE, () -> x.join(full, full));
-            due.answers("what throws makes nothing", before, x::versions);
-        }
-    }
-
     private static void bindAndValue() {
         for (int form = 0; form < 2; form++) {
-            LastingShapes x = new LastingShapes();
+            Counted x = new Counted();
             int none = x.empty(MAP, form);
             due.answers("bind answers the new number", 1, () -> x.bind(none, 9, 90));
             int two = x.bind(x.bind(none, 255, -1), 0, 1);
@@ -323,35 +218,9 @@ final class PromiseTest {
         }
     }
 
-    /** A map of 100 needs 101 versions, so only the limit of versions can be reached. */
-    private static void bindUpToTheMostElements() {
-        LastingShapes x = new LastingShapes();
-        int v = x.empty(MAP, 0);
-        while (x.versions() < 64) {
-            v = x.bind(v, 255 - v, v);
-        }
-        int full = v;
-        due.answers("as many keys as versions leave room for", 63, () -> x.size(full));
-        due.answers("the least key came last", 62, () -> x.at(full, 0));
-        due.fails("no version more", STATE, () -> x.bind(full, 0, 1));
-        due.fails("not for a key that it has", STATE, () -> x.bind(full, 255, 1));
-        due.fails("a wrong key comes first", ARGUMENT, () -> x.bind(full, 256, 1));
-    }
-
-    private static void valueOfWrongKeys() {
-        LastingShapes x = new LastingShapes();
-        int none = x.empty(MAP, 0);
-        int map = x.bind(x.bind(none, 0, 5), 255, 6);
-        for (int key : new int[] {-1, 1, 254, 256, Integer.MIN_VALUE, Integer.MAX_VALUE}) {
-            due.fails("value of key " + key, NO_ELEMENT, () -> x.value(map, key));
-        }
-        due.fails("value in an empty map", NO_ELEMENT, () -> x.value(none, 0));
-        due.answers("value makes no version", 3, x::versions);
-    }
-
     private static void update() {
         for (int form = 0; form < 2; form++) {
-            LastingShapes x = new LastingShapes();
+            Counted x = new Counted();
             int v = made(x, LIST, form, 4, 3, 2, 1);
             due.answers("update answers the new number", v + 1, () -> x.update(v, 0, 9));
             due.elements("the first", x, v + 1, 9, 2, 3, 4);
@@ -370,7 +239,7 @@ final class PromiseTest {
     }
 
     private static void atOfEveryKind() {
-        LastingShapes x = new LastingShapes();
+        Counted x = new Counted();
         int[][] rows = {{4, 2, 6}, {2, 4, 6}, {6, 2, 4}, {}, {4, 2, 6}};
         for (int kind = 0; kind < FORMS.length; kind++) {
             for (int form = 0; form < FORMS[kind] && kind != MAP; form++) {
@@ -388,13 +257,13 @@ final class PromiseTest {
     private static void sizeOfEveryKind() {
         for (int kind = 0; kind < FORMS.length; kind++) {
             for (int form = 0; form < FORMS[kind]; form++) {
-                LastingShapes x = new LastingShapes();
+                Counted x = new Counted();
                 int v = x.empty(kind, form);
                 for (int i = 0; i < 20; i++) {
                     int size = i;
                     int old = v;
                     due.answers("size of kind " + kind, size, () -> x.size(old));
-                    v = kind == MAP ? x.bind(v, i, 0) : x.add(v, 0);
+                    v = Scenes.withElement(x, v, kind, i, 0);
                 }
                 due.answers("size makes no version", 21, x::versions);
             }
@@ -402,8 +271,8 @@ final class PromiseTest {
     }
 
     private static void partsOfLists() {
-        LastingShapes x = new LastingShapes();
-        LastingShapes y = new LastingShapes();
+        Counted x = new Counted();
+        Counted y = new Counted();
         x.empty(LIST, 0);
         y.empty(LIST, 1);
         int[] fewest = fewestTrees(63);
@@ -442,10 +311,10 @@ final class PromiseTest {
     private static void partsOfHeaps() {
         for (int size = 0; size <= 100; size++) {
             int n = size;
-            LastingShapes x = new LastingShapes();
-            int plain = sevens(x, HEAP, 0, size);
-            int binary = sevens(x, HEAP, 1, size);
-            int other = sevens(x, HEAP, 2, size);
+            Counted x = new Counted();
+            int plain = Scenes.same(x, x.empty(HEAP, 0), 7, size);
+            int binary = Scenes.same(x, x.empty(HEAP, 1), 7, size);
+            int other = Scenes.same(x, x.empty(HEAP, 2), 7, size);
             due.answers("parts of a heap 0 of " + n, n == 0 ? 0 : 1, () -> x.parts(plain));
             due.answers("parts of a heap 1 of " + n, bits(n), () -> x.parts(binary));
             due.answers("parts of a heap 2 of " + n, n == 0 ? 0 : 1, () -> x.parts(other));
@@ -455,13 +324,13 @@ final class PromiseTest {
     private static void partsOfOthers() {
         for (int kind : new int[] {QUEUE, MAP, CHAIN}) {
             for (int form = 0; form < FORMS[kind]; form++) {
-                LastingShapes x = new LastingShapes();
+                Counted x = new Counted();
                 int v = x.empty(kind, form);
                 for (int i = 0; i < 16; i++) {
                     int old = v;
                     int want = i == 0 ? 0 : 1;
                     due.answers("parts of kind " + kind + " of " + i, want, () -> x.parts(old));
-                    v = kind == MAP ? x.bind(v, 2 * i, 0) : x.add(v, 0);
+                    v = Scenes.withElement(x, v, kind, 2 * i, 0);
                 }
                 due.answers("parts makes no version", 17, x::versions);
             }
@@ -471,9 +340,9 @@ final class PromiseTest {
     private static void kindOfEveryForm() {
         for (int kind = 0; kind < FORMS.length; kind++) {
             for (int form = 0; form < FORMS[kind]; form++) {
-                LastingShapes x = new LastingShapes();
+                Counted x = new Counted();
                 int none = x.empty(kind, form);
-                int one = kind == MAP ? x.bind(none, 1, 1) : x.add(none, 1);
+                int one = Scenes.withElement(x, none, kind, 1, 1);
                 int want = 10 * kind + form;
                 due.answers("kind of an empty one", want, () -> x.kind(none));
                 due.answers("kind of one with an element", want, () -> x.kind(one));
@@ -482,89 +351,9 @@ final class PromiseTest {
         }
     }
 
-    private static void wrongVersions() {
-        LastingShapes x = new LastingShapes();
-        int chain = made(x, CHAIN, 0, 1);
-        int next = x.versions();
-        for (int wrong : NO_VERSIONS) {
-            everyCallRefuses(x, wrong, chain);
-        }
-        everyCallRefuses(x, next, chain);
-        due.answers("what throws makes nothing", next, x::versions);
-    }
-
-    private static void everyCallRefuses(LastingShapes x, int wrong, int chain) {
-        due.fails("add(" + wrong + ")", ARGUMENT, () -> x.add(wrong, 1));
-        due.fails("first(" + wrong + ")", ARGUMENT, () -> x.first(wrong));
-        due.fails("rest(" + wrong + ")", ARGUMENT, () -> x.rest(wrong));
-        due.fails("join(" + wrong + ", v)", ARGUMENT, () -> x.join(wrong, chain));
-        due.fails("join(v, " + wrong + ")", ARGUMENT, () -> x.join(chain, wrong));
-        due.fails("join(" + wrong + ", same)", ARGUMENT, () -> x.join(wrong, wrong));
-        due.fails("bind(" + wrong + ")", ARGUMENT, () -> x.bind(wrong, 1, 1));
-        due.fails("value(" + wrong + ")", ARGUMENT, () -> x.value(wrong, 1));
-        due.fails("update(" + wrong + ")", ARGUMENT, () -> x.update(wrong, 0, 1));
-        due.fails("at(" + wrong + ")", ARGUMENT, () -> x.at(wrong, 0));
-        due.fails("at(" + wrong + ") outside", ARGUMENT, () -> x.at(wrong, -1));
-        due.fails("size(" + wrong + ")", ARGUMENT, () -> x.size(wrong));
-        due.fails("parts(" + wrong + ")", ARGUMENT, () -> x.parts(wrong));
-        due.fails("kind(" + wrong + ")", ARGUMENT, () -> x.kind(wrong));
-    }
-
-    private static void wrongKinds() {
-        LastingShapes x = new LastingShapes();
-        for (int kind = 0; kind < FORMS.length; kind++) {
-            int v = kind == MAP ? x.bind(x.empty(MAP, 0), 0, 1) : made(x, kind, 0, 1);
-            if (kind != MAP) {
-                due.fails("bind of kind " + kind, ARGUMENT, () -> x.bind(v, 0, 1));
-                due.fails("value of kind " + kind, ARGUMENT, () -> x.value(v, 0));
-                due.fails("value of kind " + kind + ", wrong key", ARGUMENT, () -> x.value(v, -1));
-            }
-            if (kind != LIST) {
-                due.fails("update of kind " + kind, ARGUMENT, () -> x.update(v, 0, 1));
-                due.fails("update of kind " + kind + " outside", ARGUMENT, () -> x.update(v, 5, 1));
-            }
-        }
-        due.answers("what throws makes nothing", 10, x::versions);
-    }
-
-    /** With 64 versions, what is wrong with an argument still comes first, what is missing later. */
-    private static void fullObject() {
-        LastingShapes x = new LastingShapes();
-        int list = made(x, LIST, 0, 1);
-        int map = x.bind(x.empty(MAP, 0), 5, 50);
-        int heap = made(x, HEAP, 1, 1);
-        int queue = x.empty(QUEUE, 2);
-        while (x.versions() < 63) {
-            x.empty(CHAIN, 0);
-        }
-        due.answers("the last version is 63", 63, () -> x.empty(QUEUE, 0));
-        due.fails("empty", STATE, () -> x.empty(QUEUE, 0));
-        due.fails("empty of no kind", ARGUMENT, () -> x.empty(5, 0));
-        due.fails("empty of no form", ARGUMENT, () -> x.empty(0, 3));
-        due.fails("add", STATE, () -> x.add(queue, 1));
-        due.fails("add to a map", ARGUMENT, () -> x.add(map, 1));
-        due.fails("rest", STATE, () -> x.rest(list));
-        due.fails("rest of none", STATE, () -> x.rest(queue));
-        due.fails("rest of a map", ARGUMENT, () -> x.rest(map));
-        due.fails("join", STATE, () -> x.join(heap, heap));
-        due.fails("join of two kinds", ARGUMENT, () -> x.join(heap, 63));
-        due.fails("bind", STATE, () -> x.bind(map, 6, 1));
-        due.fails("bind in place", STATE, () -> x.bind(map, 5, 1));
-        due.fails("bind of a wrong key", ARGUMENT, () -> x.bind(map, -1, 1));
-        due.fails("update", STATE, () -> x.update(list, 0, 1));
-        due.fails("update outside", STATE, () -> x.update(list, 1, 1));
-        due.fails("update of a heap", ARGUMENT, () -> x.update(heap, 0, 1));
-        due.fails("version 64", ARGUMENT, () -> x.add(64, 1));
-        due.answers("first goes on", 1, () -> x.first(list));
-        due.fails("first of none", NO_ELEMENT, () -> x.first(queue));
-        due.answers("value goes on", 50, () -> x.value(map, 5));
-        due.answers("at goes on", 1, () -> x.at(heap, 0));
-        due.answers("64 versions", 64, x::versions);
-    }
-
     /** Two new versions from each old one must neither disturb it nor one another. */
     private static void oldVersionsStay() {
-        LastingShapes x = new LastingShapes();
+        Counted x = new Counted();
         int queue = made(x, QUEUE, 1, 1, 2);
         int one = x.add(queue, 3);
         int other = x.add(queue, 4);
