@@ -7,7 +7,7 @@ import java.util.NoSuchElementException;
  * version, and all the old ones stay as they were.
  *
  * <p>Whatever its kind and form, a version is kept as one plain row of its elements, in the order in
- * which at() tells them; forms differ only in what parts() answers.
+ * which at() tells them; a form shows only in what parts() and kind() answer, and in join().
  */
 public final class LastingShapes {
     private static final int HEAP = 1;

@@ -35,7 +35,25 @@ final class FaceTest {
             due.holds(field + " is no state that objects share",
                     !Modifier.isStatic(field.getModifiers()) || Modifier.isFinal(field.getModifiers()));
         }
+        for (Method method : LastingShapes.class.getDeclaredMethods()) {
+            due.holds(method + " bears no name of the face unless it is of it",
+                    !Modifier.isPrivate(method.getModifiers()) || !faceNames().contains(method.getName()));
+        }
+        for (Class<?> inside : LastingShapes.class.getDeclaredClasses()) {
+            int modifiers = inside.getModifiers();
+            due.holds(inside + " is static", Modifier.isStatic(modifiers));
+            due.holds(inside + " is not to be seen from other packages",
+                    !Modifier.isPublic(modifiers) && !Modifier.isProtected(modifiers));
+        }
         due.end();
+    }
+
+    private static TreeSet<String> faceNames() {
+        TreeSet<String> names = new TreeSet<>();
+        for (String method : FACE) {
+            names.add(method.substring("int ".length(), method.indexOf('(')));
+        }
+        return names;
     }
 
     private static TreeSet<String> visibleMethods() {

@@ -11,7 +11,7 @@ import java.util.TreeMap;
  */
 final class ModelTest {
     private static final int RUNS = 600;
-        private static final int[] FORMS = Scenes.FORMS;
+    private static final int[] FORMS = Scenes.FORMS;
 
     public static void main(String[] args) {
         Due due = new Due();

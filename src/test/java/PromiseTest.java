@@ -35,7 +35,9 @@ final class PromiseTest {
         partsOfHeaps();
         partsOfOthers();
         kindOfEveryForm();
+        versionsAfterEveryCall();
         oldVersionsStay();
+        exampleOfReadme();
         due.end();
     }
 
@@ -47,12 +49,14 @@ final class PromiseTest {
         return v;
     }
 
+    /** Promise 1. */
     private static void newObject() {
         Counted x = new Counted();
         due.answers("a new object has no versions", 0, x::versions);
         due.fails("a new object has no version 0", ARGUMENT, () -> x.size(0));
     }
 
+    /** Promise 1: what one object has, another has not. */
     private static void objectsAreApart() {
         Counted x = new Counted();
         Counted y = new Counted();
@@ -64,6 +68,7 @@ final class PromiseTest {
         due.answers("kind in the other", 31, () -> y.kind(0));
     }
 
+    /** Promise 2. */
     private static void emptyOfEveryForm() {
         Counted x = new Counted();
         int number = 0;
@@ -80,6 +85,7 @@ final class PromiseTest {
         due.answers("the same once more is a new version", number, () -> x.empty(QUEUE, 0));
     }
 
+    /** Promise 3. */
     private static void addByKind() {
         Counted x = new Counted();
         for (int form = 0; form < 3; form++) {
@@ -97,6 +103,7 @@ final class PromiseTest {
         due.answers("which makes none", map + 1, x::versions);
     }
 
+    /** Promise 4. */
     private static void firstByKind() {
         Counted x = new Counted();
         int[] due3 = {4, 2, 6, 0, 4};
@@ -115,6 +122,7 @@ final class PromiseTest {
         due.fails("first of an empty map", ARGUMENT, () -> x.first(map - 1));
     }
 
+    /** Promise 5. */
     private static void restByKind() {
         for (int kind = 0; kind < FORMS.length; kind++) {
             for (int form = 0; form < FORMS[kind] && kind != MAP; form++) {
@@ -145,6 +153,7 @@ final class PromiseTest {
         due.elements(told + ": the old one stays", x, v, row);
     }
 
+    /** Promise 6. */
     private static void joinOfChains() {
         Counted x = new Counted();
         int left = made(x, CHAIN, 0, 3, 1, 2);
@@ -166,6 +175,7 @@ final class PromiseTest {
         due.elements("w stays", x, right, 9, 0);
     }
 
+    /** Promise 6. */
     private static void joinOfHeaps() {
         for (int form = 0; form < 3; form++) {
             Counted x = new Counted();
@@ -190,6 +200,7 @@ final class PromiseTest {
         }
     }
 
+    /** Promises 7 and 8. */
     private static void bindAndValue() {
         for (int form = 0; form < 2; form++) {
             Counted x = new Counted();
@@ -218,6 +229,7 @@ final class PromiseTest {
         }
     }
 
+    /** Promise 9. */
     private static void update() {
         for (int form = 0; form < 2; form++) {
             Counted x = new Counted();
@@ -238,6 +250,7 @@ final class PromiseTest {
         }
     }
 
+    /** Promise 10. */
     private static void atOfEveryKind() {
         Counted x = new Counted();
         int[][] rows = {{4, 2, 6}, {2, 4, 6}, {6, 2, 4}, {}, {4, 2, 6}};
@@ -254,6 +267,7 @@ final class PromiseTest {
         due.answers("at makes no version", before, x::versions);
     }
 
+    /** Promise 11. */
     private static void sizeOfEveryKind() {
         for (int kind = 0; kind < FORMS.length; kind++) {
             for (int form = 0; form < FORMS[kind]; form++) {
@@ -270,6 +284,7 @@ final class PromiseTest {
         }
     }
 
+    /** Promise 12. */
     private static void partsOfLists() {
         Counted x = new Counted();
         Counted y = new Counted();
@@ -308,6 +323,7 @@ final class PromiseTest {
         return Integer.toBinaryString(n).replace("0", "").length();
     }
 
+    /** Promise 12. */
     private static void partsOfHeaps() {
         for (int size = 0; size <= 100; size++) {
             int n = size;
@@ -321,6 +337,7 @@ final class PromiseTest {
         }
     }
 
+    /** Promise 12. */
     private static void partsOfOthers() {
         for (int kind : new int[] {QUEUE, MAP, CHAIN}) {
             for (int form = 0; form < FORMS[kind]; form++) {
@@ -337,6 +354,7 @@ final class PromiseTest {
         }
     }
 
+    /** Promise 13. */
     private static void kindOfEveryForm() {
         for (int kind = 0; kind < FORMS.length; kind++) {
             for (int form = 0; form < FORMS[kind]; form++) {
@@ -349,6 +367,60 @@ final class PromiseTest {
                 due.answers("kind makes no version", 2, x::versions);
             }
         }
+    }
+
+    /** Promise 14: one more for each call that makes a version, none for all others. */
+    private static void versionsAfterEveryCall() {
+        Counted x = new Counted();
+        grows(x, 1, () -> x.empty(HEAP, 1));
+        grows(x, 1, () -> x.add(0, 4));
+        grows(x, 1, () -> x.join(1, 1));
+        grows(x, 1, () -> x.rest(2));
+        grows(x, 1, () -> x.empty(MAP, 0));
+        grows(x, 1, () -> x.bind(4, 3, 30));
+        grows(x, 1, () -> x.bind(5, 3, 31));
+        grows(x, 1, () -> x.empty(LIST, 0));
+        grows(x, 1, () -> x.add(7, 1));
+        grows(x, 1, () -> x.update(8, 0, 2));
+        due.answers("versions in all", 10, x::versions);
+        grows(x, 0, () -> x.first(2));
+        grows(x, 0, () -> x.value(6, 3));
+        grows(x, 0, () -> x.at(9, 0));
+        grows(x, 0, () -> x.size(9));
+        grows(x, 0, () -> x.parts(9));
+        grows(x, 0, () -> x.kind(9));
+        grows(x, 0, x::versions);
+        grows(x, 0, () -> x.add(10, 1));
+        grows(x, 0, () -> x.rest(0));
+        grows(x, 0, () -> x.update(9, 1, 1));
+        due.answers("versions in all", 10, x::versions);
+    }
+
+    private static void grows(Counted x, int by, Due.Call call) {
+        int before = x.versions();
+        Due.outcome(call);
+        due.answers("versions after a call", before + by, x::versions);
+    }
+
+    /** README.md tells these very calls with these answers. */
+    private static void exampleOfReadme() {
+        LastingShapes x = new LastingShapes();
+        int none = x.empty(0, 0);
+        int one = x.add(none, 5);
+        int two = x.add(one, 6);
+        int less = x.rest(two);
+        due.same("numbers", "0 1 2 3", none + " " + one + " " + two + " " + less);
+        due.answers("first(less)", 6, () -> x.first(less));
+        due.answers("at(two, 0)", 5, () -> x.at(two, 0));
+        int map = x.bind(x.empty(3, 0), 200, 7);
+        due.answers("value(map, 200)", 7, () -> x.value(map, 200));
+        int list = x.add(x.add(x.empty(2, 1), 8), 9);
+        int other = x.update(list, 1, 4);
+        due.answers("at(other, 1)", 4, () -> x.at(other, 1));
+        due.answers("parts(other)", 1, () -> x.parts(other));
+        int chain = x.add(x.empty(4, 0), 3);
+        due.answers("size(join(chain, chain))", 2, () -> x.size(x.join(chain, chain)));
+        due.answers("versions()", 13, x::versions);
     }
 
     /** Two new versions from each old one must neither disturb it nor one another. */
